@@ -63,6 +63,7 @@ public final class PromisesTest {
         pourIntoEmpty();
         pourClash();
         many();
+        fullShip();
         System.out.println(wrong == 0 ? "all promises hold" : wrong + " answers are not as due");
         if (wrong != 0) {
             System.exit(1);
@@ -88,6 +89,7 @@ public final class PromisesTest {
         due(1, "first cargo", x.ofCargo(0, 0), UNKNOWN);
         due(1, "bound at first", x.bound(0), 9999);
         due(1, "taken", x.taken(), 0);
+        due(1, "one plan for no tanks, asked first", new CargoTanks().best(0, 3), 1);
         CargoTanks other = new CargoTanks();
         x.tank(1, 0, 0);
         due(1, "tanks of another object", other.many(0), 0);
@@ -445,7 +447,24 @@ public final class PromisesTest {
         due(15, "one too much", x.broken(3), 4);
         x.amount(0, 10);
         due(15, "the second one stays empty", x.broken(3), 5);
+        x.plan(0, NONE);
+        x.plan(1, 0);
+        due(15, "a tank told no more is filled no more", x.broken(2), 1);
+        x.bound(0);
+        due(15, "nor is it in the list", x.broken(3), 0);
+        x.plan(0, 0);
+        x.bound(90);
         x.amount(0, 20);
+        x.latest(0, 0, 3);
+        x.uncargo();
+        x.uncargo();
+        x.cargo(0, 20, 15, 8, 0, 0);
+        easy(x, 1, 10);
+        x.plan(0, 0);
+        due(15, "the first tank does not suit", x.broken(3), 2);
+        x.latest(0, 0, NONE);
+        x.plan(1, 0);
+        x.plan(2, 1);
         x.load();
         due(15, "what tanks hold does not matter", x.broken(3), 0);
     }
@@ -541,6 +560,13 @@ public final class PromisesTest {
         due(17, "beyond the bound: none", x.best(1, 2), NONE);
         x.bound(5);
         due(17, "within the bound", x.best(1, 3), 1);
+        x.amount(0, 10);
+        x.bound(30);
+        due(17, "list below 0 counts without its sign", x.best(1, 3), 1);
+        due(17, "the second tank", x.best(1, 21), 10);
+        x.bound(40);
+        due(17, "both", x.best(1, 3), 2);
+        due(17, "the first tank", x.best(1, 2), 99960);
     }
 
     private static void bestCountsPlans() {
@@ -561,6 +587,9 @@ public final class PromisesTest {
         x.uncargo();
         x.cargo(1, 20, 15, 0, 0, 2);
         due(17, "0 and 1 have not both the second one", x.best(2, 3), 5);
+        x.uncargo();
+        x.cargo(1, 20, 14, 0, 0, 1);
+        due(17, "a coat is still wrong beside another cargo", x.best(3, 3), 0);
         CargoTanks y = ship(6, 1);
         for (int c = 0; c < 4; c++) {
             easy(y, c, 1);
@@ -603,6 +632,19 @@ public final class PromisesTest {
         due(17, "what is held does not matter", x.best(1, 0), 1);
         x.unload(0);
         due(17, "unloaded", x.best(1, 0), 4);
+        x.amount(0, 10);
+        x.bound(9999);
+        due(17, "it goes to the first one", x.best(1, 10), 0);
+        x.load();
+        due(17, "poured into the second one", x.pour(0, 1, 10), 10);
+        x.washes(1, 1, 0);
+        x.latest(1, 0, 5);
+        x.washes(5, 1, 1);
+        due(17, "still the first one", x.best(1, 10), 0);
+        x.washes(1, 1, 3);
+        due(17, "now the second one", x.best(1, 11), 0);
+        x.pour(1, 0, 10);
+        due(17, "emptied by pouring: both are behind 1", x.best(1, 0), 3);
     }
 
     private static void taken() {
@@ -622,6 +664,11 @@ public final class PromisesTest {
         due(18, "10 and 6: the least number", x.taken(), 10);
         x.bound(0);
         due(18, "no lever, no list", x.taken(), 10);
+        x.uncargo();
+        x.uncargo();
+        x.uncargo();
+        x.amount(0, 1);
+        due(18, "an amount of 1", x.taken(), 1);
         CargoTanks y = new CargoTanks();
         y.tank(10, 0, 1);
         easy(y, 0, 10);
@@ -661,6 +708,12 @@ public final class PromisesTest {
         due(19, "not empty", x.load(), STATE);
         due(19, "washes do not grow", x.many(3), 5);
         x.unload(1);
+        x.amount(1, 10);
+        due(19, "one tank", x.load(), 0);
+        due(19, "one tank is in use", x.many(2), 1);
+        due(19, "one tank is not empty", x.load(), STATE);
+        x.unload(1);
+        x.amount(1, 25);
         due(19, "behind itself", x.load(), 0);
         due(19, "washes so far", x.many(3), 5);
     }
@@ -708,6 +761,11 @@ public final class PromisesTest {
         due(21, "more than it holds", x.pour(0, 1, 11), STATE);
         due(21, "nothing changed", x.ofTank(0, 8), 10);
         due(21, "all of it", x.pour(0, 1, 10), 10);
+        CargoTanks y = ship(2, 99);
+        easy(y, 0, 99);
+        y.load();
+        due(21, "99", y.pour(0, 1, 99), 99);
+        due(21, "and 1 back", y.pour(1, 0, 1), 1);
     }
 
     private static void pourSameCargo() {
@@ -833,5 +891,38 @@ public final class PromisesTest {
         x.uncargo();
         due(22, "no cargo", x.many(1), 0);
         due(22, "washes stay", x.many(3), 6);
+    }
+
+    /** As many tanks and cargoes as there may be: each row is used to its end. */
+    private static void fullShip() {
+        CargoTanks x = ship(6, 10);
+        for (int c = 0; c < 4; c++) {
+            easy(x, c + 4, c < 2 ? 20 : 10);
+        }
+        int[] row = {0, 0, 1, 1, 2, 3};
+        for (int t = 0; t < 6; t++) {
+            due(14, "plan of " + t, x.plan(t, row[t]), NONE);
+            due(17, "row " + t, x.best(15, 10 + t), row[t]);
+        }
+        due(3, "neighbours", x.neighbours(5, 4, true), 1);
+        due(11, "all suit", x.ofCargo(3, 6), 63);
+        due(11, "none clashes", x.ofCargo(3, 7), 0);
+        due(15, "right", x.broken(15), 0);
+        due(15, "set 16", x.broken(16), OUTSIDE);
+        due(16, "tanks", x.ofPlan(1), 6);
+        due(16, "cost", x.ofPlan(0), 0);
+        due(16, "list", x.ofPlan(2), 100000);
+        due(17, "plans", x.best(15, 3), 180);
+        due(18, "all", x.taken(), 15);
+        due(19, "load", x.load(), 0);
+        due(22, "in use", x.many(2), 6);
+        due(22, "list", x.many(4), 100000);
+        due(21, "full", x.pour(0, 1, 1), STATE);
+        due(6, "held", x.uncargo(), STATE);
+        due(20, "unload", x.unload(1), 2);
+        due(20, "unload the last one", x.unload(3), 1);
+        due(21, "into the last one", x.pour(4, 5, 10), 10);
+        due(6, "three are left", x.uncargo(), 3);
+        due(14, "the plan of the last one", x.plan(5, NONE), NONE);
     }
 }
