@@ -47,12 +47,4 @@ final class Ships {
         x.load();
         return x;
     }
-
-    static int[] ofTank(CargoTanks x, int t) {
-        int[] answers = new int[9];
-        for (int what = 0; what < 9; what++) {
-            answers[what] = x.ofTank(t, what);
-        }
-        return answers;
-    }
 }

@@ -15,13 +15,24 @@ final class Snapshot {
 
     /** How many answers a call changes. */
     static int changes(Supplier<CargoTanks> made, ToIntFunction<CargoTanks> call) {
-        List<Integer> without = read(made, x -> 0);
-        List<Integer> with = read(made, call);
-        int changed = 0;
-        for (int k = 0; k < without.size(); k++) {
-            changed += without.get(k).equals(with.get(k)) ? 0 : 1;
+        return different(read(made, x -> 0), read(made, call));
+    }
+
+    /** How many of all answers of best() and taken() are not the same for two objects. */
+    static int differentBest(CargoTanks one, CargoTanks other) {
+        List<Integer> first = new ArrayList<>();
+        List<Integer> second = new ArrayList<>();
+        readBest(one, first);
+        readBest(other, second);
+        return different(first, second);
+    }
+
+    private static int different(List<Integer> one, List<Integer> other) {
+        int count = 0;
+        for (int k = 0; k < one.size(); k++) {
+            count += one.get(k).equals(other.get(k)) ? 0 : 1;
         }
-        return changed;
+        return count;
     }
 
     private static List<Integer> read(Supplier<CargoTanks> made, ToIntFunction<CargoTanks> first) {

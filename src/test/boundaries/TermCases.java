@@ -1,3 +1,4 @@
+import java.util.List;
 import java.util.function.ToIntFunction;
 
 /** What the document says of all calls: refusals and their order, sets, how all is when asked. */
@@ -23,6 +24,7 @@ final class TermCases {
         cases.setsOfCoatsAndLiquids();
         cases.howAllIs();
         cases.howAllIsAtSea();
+        cases.askedBetweenChanges();
     }
 
     private void lastCall() {
@@ -245,5 +247,55 @@ final class TermCases {
         x.washes(7, 1, 1);
         x.washes(7, 2, 1);
         d.due("loading by washes of now", x.load(), 4);
+    }
+
+    /** What was found for an answer must not serve behind a change, whichever it is. */
+    private void askedBetweenChanges() {
+        d.sentence(TERMS, "All that is told is by how all is when it is asked.");
+        List<ToIntFunction<CargoTanks>> changes = List.of(x -> x.tank(50, 0, 0),
+                x -> x.neighbours(0, 1, true), x -> x.latest(0, 0, NONE),
+                x -> x.cargo(5, 10, 15, 0, 0, 0), CargoTanks::uncargo, x -> x.amount(2, 40),
+                x -> x.washes(4, 1, 3), x -> x.bound(9), x -> x.unload(0), x -> x.pour(0, 3, 10));
+        for (int a = 0; a < changes.size(); a++) {
+            CargoTanks changed = twoOfThree();
+            changes.get(a).applyAsInt(changed);
+            int some = Math.min(1, Snapshot.differentBest(twoOfThree(), changed));
+            d.due("change " + a + " changes the best", some, 1);
+            for (int b = 0; b < changes.size(); b++) {
+                askedBetween(a + " and " + b, changes.get(a), changes.get(b));
+            }
+        }
+    }
+
+    private void askedBetween(String which, ToIntFunction<CargoTanks> a, ToIntFunction<CargoTanks> b) {
+        for (boolean asked : new boolean[] {true, false}) {
+            CargoTanks x = twoOfThree();
+            CargoTanks y = twoOfThree();
+            a.applyAsInt(x);
+            a.applyAsInt(y);
+            if (asked) {
+                x.taken();
+            }
+            b.applyAsInt(x);
+            b.applyAsInt(y);
+            // there and back: all is as it was, but whatever was found has to be found anew
+            y.bound(y.bound(0));
+            d.due("changes " + which, Snapshot.differentBest(x, y), 0);
+        }
+    }
+
+    /** Two cargoes are held, the third one is too large. */
+    private static CargoTanks twoOfThree() {
+        CargoTanks x = new CargoTanks();
+        for (int t = 0; t < 4; t++) {
+            x.tank(10, 0, t % 2 == 0 ? 1 : -1);
+            x.latest(t, 0, 4);
+        }
+        x.washes(4, 1, 1);
+        x.cargo(1, 10, 1, 0, 0, 4);
+        Ships.easy(x, 2, 10);
+        Ships.easy(x, 3, 45);
+        x.load();
+        return x;
     }
 }
