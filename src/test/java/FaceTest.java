@@ -70,8 +70,6 @@ public final class FaceTest {
         for (Field f : CargoTanks.class.getDeclaredFields()) {
             boolean open = Modifier.isPublic(f.getModifiers());
             check(open || Modifier.isPrivate(f.getModifiers()), f + " is public or private");
-            check(!Modifier.isStatic(f.getModifiers()) || Modifier.isFinal(f.getModifiers()),
-                    f + " is final");
             if (open) {
                 constants.add(f.getName());
             }
@@ -85,15 +83,31 @@ public final class FaceTest {
     }
 
     private static void innerClasses() {
-        for (Class<?> inner : CargoTanks.class.getDeclaredClasses()) {
+        Class<?>[] all = CargoTanks.class.getDeclaredClasses();
+        check(all.length <= 12, "some twelve classes: " + all.length);
+        fields(CargoTanks.class);
+        for (Class<?> inner : all) {
+            fields(inner);
             check(Modifier.isStatic(inner.getModifiers()), inner + " is static");
             check(!Modifier.isPublic(inner.getModifiers()), inner + " is not public");
-            check(inner.getDeclaredFields().length <= 20, inner + " has some twenty fields");
             for (Method m : inner.getDeclaredMethods()) {
                 check(FACE.stream().noneMatch(f -> f.startsWith(m.getName() + "(")),
                         m + " bears the name of a public method");
             }
         }
+    }
+
+    /** At most some twenty beside the constants, which are final and plain. */
+    private static void fields(Class<?> of) {
+        int count = 0;
+        for (Field f : of.getDeclaredFields()) {
+            boolean constant = Modifier.isStatic(f.getModifiers());
+            count += constant ? 0 : 1;
+            check(!constant || Modifier.isFinal(f.getModifiers()), f + " is final");
+            check(!constant || f.getType() == int.class, f + " is an int");
+            check(constant || Modifier.isPrivate(f.getModifiers()), f + " is private");
+        }
+        check(count <= 20, of + " has some twenty fields: " + count);
     }
 
     private static void source() throws IOException {
